@@ -249,6 +249,14 @@ public final class PromiseTests {
         is(fault("odds or;"), 5);
         is(fault("odds 1 or or 1;"), 10);
         is(fault("odds pacE;"), 5);
+        is(fault("odds land;"), 5);
+        is(fault("bdds 1;"), 0);
+        is(fault("odds onez;"), 5);
+        is(fault("odds aone;"), 5);
+        is(fault("odds 1" + (char) 96 + ";"), 6);
+        is(fault("odds 1{;"), 6);
+        is(fault("odds 1/;"), 6);
+        is(fault("odds 1:;"), 6);
         is(fault("odds pace" + (char) 9 + ";"), 9);
         is(fault("odds pace" + (char) 200 + ";"), 9);
         is(fault("odds 1 x 12345"), 7);
@@ -838,6 +846,17 @@ public final class PromiseTests {
         is(x.cell(0, -1, 0), -12);
         is(x.cell(0, 3, 0), -12);
         is(x.swaps(0), 3);
+        // Of 65538 a short keeps 2, a byte too; of 258 a byte alone does.
+        int[][] kept = {{3, 3, 3}, {3, 3, -2}, {3, -2, -2}};
+        int[] values = {2, 65538, 258};
+        for (int sort = 0; sort < 3; sort++) {
+            for (int i = 0; i < 3; i++) {
+                x.sheet(0, sort, 3);
+                x.cell(0, 0, values[i]);
+                x.cell(0, 1, 1);
+                is(x.swaps(0), kept[sort][i]);
+            }
+        }
         promise(33);
         is(x.sheet(0, 2, 3), 1);
         is(x.cell(0, 1, 1), 1);
