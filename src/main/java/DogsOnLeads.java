@@ -926,6 +926,7 @@ public final class DogsOnLeads {
 
     /** Looks through all orders of the dogs for the first of those that come to the least together. */
     private static final class Orders {
+        private static final int MORE_THAN_ANY = 1000000;
         final int[] ends = new int[MOST_DOGS];
         final int[] found = new int[MOST_DOGS];
         private final int[] prices = new int[MOST_DOGS * MOST_DOGS * MOST_DOGS];
@@ -958,7 +959,7 @@ public final class DogsOnLeads {
             if (size == 0) {
                 return 0;
             }
-            least = Integer.MAX_VALUE;
+            least = MORE_THAN_ANY;
             extend(0, 0, 0);
             return least;
         }

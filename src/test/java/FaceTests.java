@@ -103,8 +103,7 @@ public final class FaceTests {
         holds(!code.contains("->") && !code.contains("::"), "no lambda, no method reference");
         holds(!Pattern.compile("\\bwhile \\(true\\)|for \\(;;\\)").matcher(code).find(), "no loop without an end");
         Matcher calls = Pattern.compile("\\b(Math|Integer|Long|System|Arrays)\\.(\\w+)").matcher(code);
-        Set<String> listed = Set.of("Math.min", "Math.max", "Math.abs", "Integer.bitCount", "Integer.MAX_VALUE",
-                "System.arraycopy");
+        Set<String> listed = Set.of("Math.min", "Math.max", "Math.abs", "Integer.bitCount", "System.arraycopy");
         while (calls.find()) holds(listed.contains(calls.group()), calls.group() + " is of the library that is listed");
         int begun = -1;
         String[] lines = code.split("\n");
